@@ -30,7 +30,6 @@ public final class ZincSermon {
 
     // The OWN WORDS, WORD_SIZE signs each; the numbers behind tell their order there.
     private static final String OWN_WORDS = "board ribs  zinc  stain deep  stuff hearersin   ear   out   wear  saved slide picks water dry   week  rub   bone  came  if    or    and   not   all   min   max   ";
-    private static final int OWN_COUNT = 27;
     private static final int WORD_SIZE = 6;
     private static final int BOARD = 0;
     private static final int RIBS = 1;
@@ -777,23 +776,16 @@ public final class ZincSermon {
         }
 
         private int findOwn() {
-            for (int word = 0; word < OWN_COUNT; word++) {
-                if (isOwn(word)) {
-                    return word;
+            int letters = 0;
+            for (int k = 0; k < OWN_WORDS.length(); k++) {
+                int sign = OWN_WORDS.charAt(k);
+                int ahead = k % WORD_SIZE == 0 ? 0 : letters << 5;
+                letters = ahead | (sign == ' ' ? 0 : sign - 'a' + 1);
+                if (k % WORD_SIZE == WORD_SIZE - 1 && letters == value) {
+                    return k / WORD_SIZE;
                 }
             }
             return NONE;
-        }
-
-        private boolean isOwn(int word) {
-            for (int k = 0; k < WORD_SIZE; k++) {
-                int sign = start + k < at ? text[start + k] : ' ';
-                int slot = word * WORD_SIZE + k;
-                if (slot >= OWN_WORDS.length() || OWN_WORDS.charAt(slot) != sign) {
-                    return false;
-                }
-            }
-            return true;
         }
 
         private void takeNumber() {
