@@ -101,7 +101,7 @@ public final class ZincSermon {
     private final Kept log = new Kept();
     private final Seen seen = new Seen(preacher, now);
     private final Matcher matcher = new Matcher(preacher, now);
-    private final Row row = new Row(preacher, now);
+    private final Heads heads = new Heads(preacher, now);
     private long drawn = 1;
     private final int[] bytes = new int[3 + BOARDS_MOST + STAINS_MOST + SORT_SIZE + 1];
     private int bytesSize = 0;
@@ -291,16 +291,16 @@ public final class ZincSermon {
         if (!plan.holds(BOARDS, board) || what < 0) {
             return NONE;
         }
-        if (row.board != board) {
-            row.solve(board);
+        if (heads.board != board) {
+            heads.solve(board);
         }
         if (what == 0) {
-            return row.most;
+            return heads.most;
         }
         if (what == 1) {
-            return row.fewest;
+            return heads.fewest;
         }
-        return what - 2 < row.most ? row.best[what - 2] : NONE;
+        return what - 2 < heads.most ? heads.best[what - 2] : NONE;
     }
 
     private boolean areThere(int board, int stain) {
@@ -480,7 +480,7 @@ public final class ZincSermon {
     /** MATCH and HEADS are dear, so they are kept until something changes. */
     private void forgetAnswers() {
         matcher.fresh = false;
-        row.board = NONE;
+        heads.board = NONE;
     }
 
     private void keepWeek(boolean drought) {
@@ -707,7 +707,7 @@ public final class ZincSermon {
 
         void parse() {
             next();
-            for (int n = 0; n <= STATEMENTS_MOST && kind != END && kind != STOPPED; n++) {
+            for (int n = 0; n < STATEMENTS_MOST && kind != END && kind != STOPPED; n++) {
                 readStatement();
             }
         }
@@ -732,17 +732,17 @@ public final class ZincSermon {
             start = at;
             if (at >= size) {
                 kind = END;
+            } else if (needsBlank && at == last && (isLetter(text[at]) || isDigit(text[at]))) {
+                stop(1, at);
             } else if (isLetter(text[at])) {
                 takeWord();
+                own = findOwn();
             } else if (isDigit(text[at])) {
                 takeNumber();
             } else {
                 kind = SIGN;
                 value = text[at] & 255;
                 at++;
-            }
-            if (needsBlank && start == last && (kind == WORD || kind == NUMBER)) {
-                stop(1, start);
             }
         }
 
@@ -770,8 +770,6 @@ public final class ZincSermon {
             }
             if (at < size && isLetter(text[at])) {
                 stop(1, at);
-            } else {
-                own = findOwn();
             }
         }
 
@@ -832,7 +830,7 @@ public final class ZincSermon {
                 stop(1, start);
                 return;
             }
-            if (plan.statements >= STATEMENTS_MOST || isFull(word)) {
+            if (isFull(word)) {
                 stop(6, start);
                 return;
             }
@@ -850,8 +848,20 @@ public final class ZincSermon {
             } else {
                 readRule(word);
             }
-            takeSign(';');
+            endStatement();
+        }
+
+        /** Behind the last STATEMENT that may be, whatever comes is one too many. */
+        private void endStatement() {
             plan.statements++;
+            if (isSign(';') && plan.statements >= STATEMENTS_MOST) {
+                skipBlanks();
+                if (at < size) {
+                    stop(6, at);
+                    return;
+                }
+            }
+            takeSign(';');
         }
 
         private static boolean beginsStatement(int word) {
@@ -1454,7 +1464,7 @@ public final class ZincSermon {
     }
 
     /** Finds the HEADS of a BOARD. */
-    private static final class Row {
+    private static final class Heads {
         private static final int ZINC_SPAN = 100;
         private static final int UNKNOWN = -1;
         private static final int UNSAFE = 0;
@@ -1470,7 +1480,7 @@ public final class ZincSermon {
         final Preacher preacher;
         final State state;
 
-        Row(Preacher preacher, State state) {
+        Heads(Preacher preacher, State state) {
             this.preacher = preacher;
             this.state = state;
         }

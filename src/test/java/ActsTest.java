@@ -75,17 +75,41 @@ public final class ActsTest {
         Check.due("undo()", x.undo(), true);
         Check.due("the seed stays", x.has(11), seed);
         Check.due("week", x.has(3), 0);
-        x = Check.chapel("board a ribs 3 zinc 20;stain s deep 9 stuff 0;hearer h sin 0 ear 0;saved all;slide came=0 and ribs=0;dry 100;");
+        dryToTheBrim();
+        x = Check.chapel("board a ribs 3 zinc 20;stain s deep 9 stuff 3;hearer h sin 0 ear 0;saved all;"
+                + "slide came+ribs+deep+stuff+zinc=0 and week=3 and water=5;dry 100;");
         Check.due("chance(3), dry 100", x.chance(3), 3);
         Check.due("no SERMON", x.stain(0, 0), 9);
+        Check.due("nothing is KEPT", x.has(8), 0);
         x.sermon(0, 0, 1);
         Check.due("saved", x.hearer(0, 2), 1);
+        x.pour(5);
         Check.due("chance(1), dry 100", x.chance(1), 1);
         Check.due("slid back in a DROUGHT", x.hearer(0, 2), 0);
         x = Check.chapel("board a ribs 3 zinc 20;stain s deep 9 stuff 0;");
         Check.due("chance(3), dry 0", x.chance(3), 0);
         Check.due("all came out", x.stain(0, 0), 0);
         Check.due("DRAWS all the same", x.has(11) != 1, true);
+    }
+
+    /** A DRAW of dry itself is no DROUGHT; without dry no DRAW is one. */
+    private static void dryToTheBrim() {
+        for (int seed = 0; seed < 3000; seed++) {
+            int drawn = (int) ((1103515245L * seed + 12345L) % (1L << 31) / 64 % 100);
+            if (seed < 20 || drawn == 0) {
+                ZincSermon x = Check.chapel("dry " + drawn + ";");
+                x.seed(seed);
+                Check.due("dry " + drawn, x.chance(1), 0);
+                x = Check.chapel("dry " + (drawn + 1) + ";");
+                x.seed(seed);
+                Check.due("dry " + (drawn + 1), x.chance(1), 1);
+            }
+            if (drawn == 0) {
+                ZincSermon x = Check.chapel("");
+                x.seed(seed);
+                Check.due("without dry", x.chance(1), 0);
+            }
+        }
     }
 
     private static void sermon() {

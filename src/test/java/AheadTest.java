@@ -84,6 +84,12 @@ public final class AheadTest {
         Check.due("clean() now", x.clean(), 0);
         x.soil(0, 1);
         Check.due("clean() beyond", x.clean(), -1);
+        x = Check.chapel("board a ribs 1 zinc 9;stain s deep 2 stuff 0;");
+        Check.tape(x, 3, 230, 0, 9, 2, ((((211 * 5 + 3) % 251 * 5 + 230) % 251 * 5) % 251 * 25 + 47) % 251);
+        Check.due("on() at WEEK 998", x.on(), true);
+        Check.due("clean() would be at WEEK 1000", x.clean(), -1);
+        x.sermon(0, 0, 1);
+        Check.due("clean() at WEEK 999", x.clean(), 1);
         x = Check.chapel("board a ribs 1 zinc 9;stain s deep 41 stuff 0;");
         Check.due("clean() in 41", x.clean(), -1);
         x = Check.chapel("board a ribs 1 zinc 9;stain s deep 40 stuff 0;");
@@ -91,6 +97,8 @@ public final class AheadTest {
         x = Check.chapel("stain s deep 1 stuff 0;");
         Check.due("clean() without boards", x.clean(), -1);
         Check.due("later without boards", x.later(0, 40), 1);
+        Check.due("weeks without boards", x.weeks(3), 0);
+        Check.due("nothing is KEPT without boards", x.has(8), 0);
     }
 
     private static void wrongOnes() {

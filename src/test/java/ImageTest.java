@@ -90,6 +90,16 @@ public final class ImageTest {
         Check.due("saved", x.has(7), 2);
         Check.due("on() least", on(x, sealed(0, 0, 0, 0, 0, 0, 0, 0)), true);
         Check.due("bare boards", x.has(6), 2);
+        Check.due("nobody is saved", x.has(7), 0);
+        int[] weeks = {255, 256, 257, 511, 512, 513, 767, 768, 998, 999};
+        for (int week : weeks) {
+            Check.due("on() at WEEK " + week, on(x, sealed(week / 256, week % 256, 0, 0, 0, 0, 0, 0)), true);
+            Check.due("WEEK", x.has(3), week);
+            x.image();
+            Check.due("octet(0) at WEEK " + week, x.octet(0), week / 256);
+            Check.due("octet(1) at WEEK " + week, x.octet(1), week % 256);
+        }
+        full();
         int[][] beyond = {{3, 232, 99, 20, 9, 99, 1, 1}, {4, 0, 99, 20, 9, 99, 1, 1}, {0, 0, 100, 20, 9, 99, 1, 1},
             {0, 0, 0, 21, 9, 99, 1, 1}, {0, 0, 0, 20, 10, 99, 1, 1}, {0, 0, 0, 20, 9, 100, 1, 1},
             {0, 0, 0, 20, 9, 99, 2, 1}, {0, 0, 0, 20, 9, 99, 1, 2}, {255, 255, 0, 20, 9, 99, 1, 1}};
@@ -99,6 +109,31 @@ public final class ImageTest {
             Check.due("on() beyond " + k, on(x, sealed(beyond[k])), false);
             Check.due("all stays", Check.all(x), before);
             Check.due("status(5)", x.status(5), k + 1);
+        }
+    }
+
+    /** As many BOARDS, STAINS and HEARERS as there can be. */
+    private static void full() {
+        StringBuilder text = new StringBuilder("saved sin>2;");
+        for (int k = 0; k < 6; k++) {
+            char c = (char) ('a' + k);
+            text.append("stain s").append(c).append(" deep ").append(90 + k).append(" stuff 1;");
+            text.append("hearer h").append(c).append(" sin ").append(k).append(" ear 1;");
+            text.append(k < 5 ? "board b" + c + " ribs 1 zinc " + (20 + k) + ";" : "");
+        }
+        ZincSermon x = Check.chapel(text.toString());
+        x.sermon(0, 0, 1);
+        int[] want = sealed(0, 0, 0, 19, 21, 22, 23, 24, 89, 91, 92, 93, 94, 95, 0, 0, 0, 1, 1, 1);
+        Check.due("image() of all", x.image(), 21);
+        for (int k = 0; k < 21; k++) {
+            Check.due("octet(" + k + ") of all", x.octet(k), want[k]);
+        }
+        Check.due("octet(21) of all", x.octet(21), -1);
+        x.weeks(9);
+        Check.due("on() of all", on(x, want), true);
+        Check.due("image() anew", x.image(), 21);
+        for (int k = 0; k < 21; k++) {
+            Check.due("octet(" + k + ") anew", x.octet(k), want[k]);
         }
     }
 

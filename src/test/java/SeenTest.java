@@ -107,6 +107,16 @@ public final class SeenTest {
         x = Check.chapel("board a ribs 2 zinc 9;stain s deep 9 stuff 0;stain t deep 9 stuff 1;out if(stuff=1 and rub=41,1,0);");
         Check.due("tells nothing", x.tells(0, 0), 1);
         Check.due("tells nothing, left", x.tells(0, 1), 2);
+        StringBuilder six = new StringBuilder("board a ribs 2 zinc 9;");
+        for (char c = 'b'; c < 'h'; c++) {
+            six.append("stain ").append(c).append(" deep 9 stuff ").append(c - 'b').append(";");
+        }
+        x = Check.chapel(six.toString());
+        Check.due("tells of six alike", x.tells(0, 0), 1);
+        Check.due("tells of six alike, left", x.tells(0, 1), 6);
+        x = Check.chapel(six + "out if(rub=40,stuff,0);");
+        Check.due("tells of six at the 40th", x.tells(0, 0), 40);
+        Check.due("tells of six at the 40th, left", x.tells(0, 1), 1);
         Check.due("tells without stains", Check.chapel("board a ribs 2 zinc 9;").tells(0, 0), -1);
     }
 

@@ -57,6 +57,9 @@ public final class StrokesTest {
         ZincSermon x = Check.chapel("board b ribs 3 zinc 9;stain s deep 99 stuff 1;wear 0;");
         Check.due("99 needed", x.needed(0, 0, 0), 99);
         Check.due("safe", x.needed(0, 0, 1), 1);
+        Check.due("best of 99", x.best(0), 0);
+        Check.due("match of 99", x.match(-1), 99);
+        Check.due("heads of 99", x.heads(0, 1), 99);
         x = Check.chapel("board b ribs 3 zinc 9;stain s deep 99 stuff 1;wear 0;out if(rub=1,0,1);");
         Check.due("99 are not enough", x.needed(0, 0, 0), -1);
         Check.due("99 are not enough, safe", x.needed(0, 0, 1), -1);

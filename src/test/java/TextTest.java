@@ -63,6 +63,21 @@ public final class TextTest {
         // The highest byte of each number comes first: "dry 12;" and then blanks.
         x.feed(0x64727920, 0x31323b20, 0x0a202020, 0x20202020, 0x20202020);
         Check.due("chapel() of dry", x.chapel(), 1);
+        behindTheEnd("water 12;", 7, 7);
+        behindTheEnd("water 12345;", 10, 10);
+        behindTheEnd("waters 1;", 5, 5);
+        behindTheEnd("board abcdefg", 12, 12);
+        behindTheEnd("water  ;", 6, 6);
+    }
+
+    /** What was on the tape behind its end is not read. */
+    private static void behindTheEnd(String text, int n, int place) {
+        ZincSermon x = new ZincSermon();
+        Check.tape(x, text);
+        Check.due("end(" + n + ") of " + text, x.end(n), true);
+        Check.due("chapel() of what is left of " + text, x.chapel(), -1);
+        Check.due("fault(0) of what is left of " + text, x.fault(0), text.startsWith("water 1234") ? 4 : 1);
+        Check.due("fault(1) of what is left of " + text, x.fault(1), text.startsWith("water 1234") ? 6 : place);
     }
 
     private static void goodTexts() {
@@ -147,6 +162,8 @@ public final class TextTest {
         Check.bad("board hearers ribs", 1, 12);
         Check.bad("out 10000;", 1, 8);
         Check.bad("board 12345", 1, 10);
+        Check.bad("water12345", 1, 5);
+        Check.bad("water 1abcdefg", 1, 7);
     }
 
     private static void names() {
@@ -191,6 +208,18 @@ public final class TextTest {
         Check.bad("saved not[not[not[not not all]]];", 5, 22);
         Check.bad("out " + Check.times("min(", 8), 5, 35);
         Check.bad("out " + Check.times("if(", 8), 5, 27);
+        String six = Check.times("(", 6);
+        String ends = Check.times(")", 6);
+        Check.good("out min(1," + six + "1" + ends + ");wear max(" + six + "1" + ends + ",1);", 2);
+        Check.bad("out min(1," + six + "(1", 5, 16);
+        Check.bad("out max(" + six + "(1", 5, 14);
+        Check.good("out if(all," + six + "1" + ends + "," + six + "1" + ends + ");", 1);
+        Check.bad("out if(all," + six + "(1", 5, 17);
+        Check.bad("out if(all,1," + six + "(1", 5, 19);
+        Check.bad("out if([[[[[[[all", 5, 13);
+        Check.good("out if([[[[[[all]]]]]],1,1);", 1);
+        Check.good("saved[" + Check.times("[", 5) + "(1)<2" + Check.times("]", 6) + ";", 1);
+        Check.bad("saved[" + Check.times("[", 5) + "((1)<2", 5, 12);
         Check.good("out " + Check.times("(1)*", 20) + "(1);", 1);
         Check.bad("out " + Check.times("(", 7) + "1(", 1, 12);
         Check.bad("out " + Check.times("(", 7) + "min 1", 1, 15);
@@ -217,7 +246,11 @@ public final class TextTest {
         Check.good(Check.times("dry 1;", 80), 80);
         Check.bad(Check.times("dry 1;", 81), 6, 480);
         Check.bad(Check.times("dry 1;", 80) + " wear", 6, 481);
-        Check.bad(Check.times("dry 1;", 80) + ";", 1, 480);
+        Check.good(Check.times("dry 1;", 80) + " \n ", 80);
+        Check.bad(Check.times("dry 1;", 80) + " out 1;", 6, 481);
+        Check.bad(Check.times("dry 1;", 80) + "\nx", 6, 481);
+        Check.bad(Check.times("dry 1;", 79) + "dry 1", 1, 479);
+        Check.bad(Check.times("dry 1;", 79) + "dry 101;dry 1;", 4, 478);
     }
 
     private static void firstAlong() {
@@ -230,7 +263,7 @@ public final class TextTest {
     }
 
     private static void whatStays() {
-        ZincSermon x = Check.chapel("board a ribs 2 zinc 9;stain s deep 9 stuff 1;water 7;");
+        ZincSermon x = Check.chapel("board a ribs 2 zinc 9;stain s deep 9 stuff 1;hearer h sin 0 ear 0;saved all;water 7;");
         x.seed(77);
         x.weeks(1);
         Check.tape(x, 0, 1, 6);
@@ -255,5 +288,17 @@ public final class TextTest {
         Check.due("fault(1)", x.fault(1), -1);
         Check.due("undo() at first", x.undo(), false);
         Check.due("status(1)", x.status(1), 1);
+        Check.tape(x, "hearer h sin 0 ear 0;board a ribs 1 zinc 4;stain s deep 3 stuff 1;saved all;");
+        x.chapel();
+        x.weeks(1);
+        Check.due("saved", x.has(7), 1);
+        Check.tape(x, "hearer h sin 0 ear 0;board a ribs 1 zinc 8;stain s deep 5 stuff 1;");
+        x.chapel();
+        Check.due("nobody is saved at first", x.has(7), 0);
+        Check.due("WEEK 0", x.has(3), 0);
+        Check.due("zinc as told", x.board(0, 1), 8);
+        Check.due("deep as told", x.stain(0, 0), 5);
+        x.weeks(1);
+        Check.due("the TEST of saved has gone", x.has(7), 0);
     }
 }
