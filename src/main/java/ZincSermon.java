@@ -100,8 +100,8 @@ public final class ZincSermon {
     private final Acts acts = new Acts();
     private final Kept log = new Kept();
     private final Seen seen = new Seen(preacher, now);
-    private final Matcher matcher = new Matcher(preacher, now);
-    private final Heads heads = new Heads(preacher, now);
+    private final MatchFinder matchFinder = new MatchFinder(preacher, now);
+    private final HeadFinder headFinder = new HeadFinder(preacher, now);
     private long drawn = 1;
     private final int[] bytes = new int[3 + BOARDS_MOST + STAINS_MOST + SORT_SIZE + 1];
     private int bytesSize = 0;
@@ -278,29 +278,29 @@ public final class ZincSermon {
         if (stain != NONE && !plan.holds(STAINS, stain)) {
             return NONE;
         }
-        if (!matcher.fresh) {
-            matcher.solve();
+        if (!matchFinder.fresh) {
+            matchFinder.solve();
         }
-        if (matcher.fewest == NONE) {
+        if (matchFinder.fewest == NONE) {
             return NONE;
         }
-        return stain == NONE ? matcher.fewest : matcher.best[stain];
+        return stain == NONE ? matchFinder.fewest : matchFinder.best[stain];
     }
 
     public int heads(int board, int what) {
         if (!plan.holds(BOARDS, board) || what < 0) {
             return NONE;
         }
-        if (heads.board != board) {
-            heads.solve(board);
+        if (headFinder.board != board) {
+            headFinder.solve(board);
         }
         if (what == 0) {
-            return heads.most;
+            return headFinder.most;
         }
         if (what == 1) {
-            return heads.fewest;
+            return headFinder.fewest;
         }
-        return what - 2 < heads.most ? heads.best[what - 2] : NONE;
+        return what - 2 < headFinder.most ? headFinder.best[what - 2] : NONE;
     }
 
     private boolean areThere(int board, int stain) {
@@ -479,8 +479,8 @@ public final class ZincSermon {
 
     /** MATCH and HEADS are dear, so they are kept until something changes. */
     private void forgetAnswers() {
-        matcher.fresh = false;
-        heads.board = NONE;
+        matchFinder.fresh = false;
+        headFinder.board = NONE;
     }
 
     private void keepWeek(boolean drought) {
@@ -1409,7 +1409,7 @@ public final class ZincSermon {
     }
 
     /** Finds the MATCH. */
-    private static final class Matcher {
+    private static final class MatchFinder {
         boolean fresh = false;
         /** The strokes together; NONE without a MATCH. */
         int fewest = NONE;
@@ -1421,7 +1421,7 @@ public final class ZincSermon {
         final Preacher preacher;
         final State state;
 
-        Matcher(Preacher preacher, State state) {
+        MatchFinder(Preacher preacher, State state) {
             this.preacher = preacher;
             this.state = state;
         }
@@ -1464,7 +1464,7 @@ public final class ZincSermon {
     }
 
     /** Finds the HEADS of a BOARD. */
-    private static final class Heads {
+    private static final class HeadFinder {
         private static final int ZINC_SPAN = 100;
         private static final int UNKNOWN = -1;
         private static final int UNSAFE = 0;
@@ -1480,7 +1480,7 @@ public final class ZincSermon {
         final Preacher preacher;
         final State state;
 
-        Heads(Preacher preacher, State state) {
+        HeadFinder(Preacher preacher, State state) {
             this.preacher = preacher;
             this.state = state;
         }
