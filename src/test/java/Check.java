@@ -1,16 +1,45 @@
+import java.util.Arrays;
+import java.util.function.Predicate;
+import java.util.function.ToIntFunction;
+
 /** What all tests of the project use: tapes, texts, answers that are due. */
 final class Check {
     private static int wrong = 0;
     private static int asked = 0;
+    /** The promise and the sentence that are tested now. */
+    private static String saying = "";
 
     private Check() {
+    }
+
+    /** What follows is due by these words of a promise. */
+    static void promise(int number, String... words) {
+        says("Promise " + number, words);
+    }
+
+    /** What follows is due by these words of the section Terms. */
+    static void terms(String... words) {
+        says("Terms", words);
+    }
+
+    /** What follows is due by no words of the document. */
+    static void itself() {
+        saying = "";
+    }
+
+    private static void says(String part, String... words) {
+        itself();
+        for (String sentence : words) {
+            due(part + " says: " + sentence, Doc.name(part, sentence), true);
+        }
+        saying = part + ", \"" + String.join("\", \"", words) + "\": ";
     }
 
     static void due(String call, long got, long want) {
         asked++;
         if (got != want) {
             wrong++;
-            System.out.println(call + " answered " + got + ", due is " + want);
+            System.out.println(saying + call + " answered " + got + ", due is " + want);
         }
     }
 
@@ -67,9 +96,73 @@ final class Check {
         due("status(1) of " + text, x.status(1), 1);
     }
 
+    /** Bytes with the last one of AN IMAGE behind them. */
+    static int[] sealed(int... bytes) {
+        int[] whole = Arrays.copyOf(bytes, bytes.length + 1);
+        int check = 211;
+        for (int octet : bytes) {
+            check = (5 * check + octet) % 251;
+        }
+        whole[bytes.length] = check;
+        return whole;
+    }
+
+    static boolean on(ZincSermon x, int... bytes) {
+        tape(x, bytes);
+        return x.on();
+    }
+
+    static int see(ZincSermon x, int... bytes) {
+        tape(x, bytes);
+        return x.see();
+    }
+
+    /** The object's IMAGE; it is its latest one then. */
+    static int[] image(ZincSermon x) {
+        int[] bytes = new int[x.image()];
+        for (int k = 0; k < bytes.length; k++) {
+            bytes[k] = x.octet(k);
+        }
+        return bytes;
+    }
+
+    /** A call that is refused: NONE, its count of status() alone is one more, all else stays. */
+    static void none(String call, ZincSermon x, int status, ToIntFunction<ZincSermon> refused) {
+        refusal(call, x, status, ZincSermon.NONE, refused);
+    }
+
+    /** As none(), of a call that answers false. */
+    static void no(String call, ZincSermon x, int status, Predicate<ZincSermon> refused) {
+        refusal(call, x, status, 0, y -> refused.test(y) ? 1 : 0);
+    }
+
+    private static void refusal(String call, ZincSermon x, int status, int want, ToIntFunction<ZincSermon> refused) {
+        int[] counts = statuses(x);
+        long before = all(x);
+        due(call, refused.applyAsInt(x), want);
+        due("all else behind " + call, all(x), before);
+        counts[status]++;
+        for (int what = 0; what < counts.length; what++) {
+            due("status(" + what + ") behind " + call, x.status(what), counts[what]);
+        }
+    }
+
+    private static int[] statuses(ZincSermon x) {
+        int[] counts = new int[6];
+        for (int what = 0; what < counts.length; what++) {
+            counts[what] = x.status(what);
+        }
+        return counts;
+    }
+
+    /** What was asked up to now is no refusal. */
+    static void unrefused(ZincSermon x) {
+        due("refused in all", Arrays.stream(statuses(x)).sum(), 0);
+    }
+
     /** All that can be asked of an object without changing it, in one number. */
     static long all(ZincSermon x) {
-        long sum = 17;
+        long sum = 17 + x.which();
         for (int what = 0; what < 12; what++) {
             sum = sum * 31 + x.has(what);
         }
@@ -78,7 +171,8 @@ final class Check {
             sum = sum * 31 + x.stain(k, 0) * 1000 + x.stain(k, 1);
             sum = sum * 31 + x.hearer(k, 0) * 100 + x.hearer(k, 1) * 10 + x.hearer(k, 2);
         }
-        for (int k = 0; k < 40; k++) {
+        int told = x.has(8);
+        for (int k = 0; k < told; k++) {
             for (int what = 0; what < 4; what++) {
                 sum = sum * 31 + x.kept(k, what);
             }
