@@ -486,13 +486,41 @@ final class ActsEdges {
         Check.due("the oldest again", x.kept(0, 0), 120);
     }
 
-    /** An object answers for 512 calls: the last of them as the first. */
+    /** The last of 512 calls is answered as the first. */
     private static void manyCalls() {
-        Check.promise(35, "How many were refused:");
+        Check.says("What it is", "An object is used for at most 512 calls after it has been made;");
         ZincSermon x = new ZincSermon();
         for (int k = 0; k < 511; k++) {
             x.seed(-1);
         }
-        Check.due("the 512th call", x.status(5), 511);
+        Check.due("refused by 511 calls", x.status(5), 511);
+        // 470 ACTS, 20 undone, then 22 calls more.
+        x = new ZincSermon();
+        for (int k = 1; k <= 470; k++) {
+            x.pour(k % 100);
+        }
+        for (int k = 469; k >= 450; k--) {
+            x.undo();
+            Check.due("water", x.has(4), k % 100);
+        }
+        Check.due("undo() of the 21st", x.undo(), false);
+        Check.due("water", x.has(4), 50);
+        manySermons();
+    }
+
+    /** 960 SERMONS of 24 calls and 400 more, on one BOARD and the other. */
+    private static void manySermons() {
+        ZincSermon x = Check.chapel("board a ribs 1 zinc 1;board b ribs 1 zinc 1;stain s deep 99 stuff 0;out 0;");
+        for (int k = 0; k < 24; k++) {
+            x.weeks(40);
+        }
+        for (int k = 0; k < 400; k++) {
+            x.sermon(k / 3 % 2, 0, 1);
+        }
+        for (int k = 0; k < 40; k++) {
+            Check.due("the BOARD of SERMON " + (360 + k), x.kept(k, 1), (360 + k) / 3 % 2);
+        }
+        Check.due("its WEEK", x.kept(0, 0), 960);
+        Check.due("told", x.has(8), 40);
     }
 }

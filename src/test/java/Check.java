@@ -27,7 +27,8 @@ final class Check {
         saying = "";
     }
 
-    private static void says(String part, String... words) {
+    /** What follows is due by these words of a part of the document. */
+    static void says(String part, String... words) {
         itself();
         for (String sentence : words) {
             due(part + " says: " + sentence, Doc.name(part, sentence), true);

@@ -124,7 +124,14 @@ final class SeenEdges {
         ZincSermon x = Check.chapel("stain s deep 1 stuff 1;");
         Check.tape(x, 0, 1, 1);
         Check.none("see() without BOARDS", x, 5, y -> y.see());
-        Check.due("see() of the last BOARD", Check.see(Check.chapel(TEXT), 1, 1, 1), 1);
+        StringBuilder boards = new StringBuilder();
+        for (int k = 0; k < 5; k++) {
+            boards.append("board b").append((char) ('a' + k)).append(" ribs 1 zinc 9;");
+            ZincSermon some = Check.chapel(boards.toString());
+            Check.due("see() of the last BOARD of " + (k + 1), Check.see(some, k, 1, 1), 1);
+            Check.tape(some, k + 1, 1, 1);
+            Check.none("see() of one BOARD more than " + (k + 1), some, 5, y -> y.see());
+        }
     }
 
     private static void tapeGoes() {

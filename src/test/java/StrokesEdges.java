@@ -278,6 +278,9 @@ final class StrokesEdges {
         due(Check.chapel("board a ribs 1 zinc 9;stain s deep 99 stuff 0;stain t deep 99 stuff 0;wear 0;"), 0, 2, 198, 0, 1);
         // Worn through by the last one: not that one.
         due(Check.chapel("board a ribs 1 zinc 5;stain s deep 2 stuff 9;stain t deep 2 stuff 1;wear if(stuff=9,3,0);"), 0, 1, 2, 1);
+        // The last zinc is some, where nothing wears it.
+        due(Check.chapel("board a ribs 1 zinc 1;stain s deep 2 stuff 0;wear 0;"), 0, 1, 2, 0);
+        due(Check.chapel("board a ribs 1 zinc 3;stain s deep 2 stuff 0;stain t deep 5 stuff 1;wear 1-stuff;"), 0, 2, 7, 0, 1);
         // Without zinc none.
         x = Check.chapel("board a ribs 1 zinc 1;stain s deep 2 stuff 9;stain t deep 1 stuff 9;wear if(week=0,1,0);");
         x.sermon(0, 0, 1);

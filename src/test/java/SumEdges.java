@@ -16,6 +16,7 @@ final class SumEdges {
         wordsAsParts();
         grammarOfParts();
         choice();
+        asDeepAsCanBe();
         grammarOfTests();
         orderOfTests();
         signs();
@@ -147,6 +148,23 @@ final class SumEdges {
         sum("if(if(all,1,2)=1,3,4)", 3);
         sum("if(all,1,2)+if(not all,10,20)", 21);
         sum("if(all,7,1/0)", 7);
+    }
+
+    /** Seven that are open, and in each a value of every kind waits for what is inside. */
+    private static void asDeepAsCanBe() {
+        Check.terms("if ( TEST , SUM , SUM ) (the first SUM where the TEST holds, else the second one). TEST: BOTH { or BOTH }.");
+        String inFirst = "1";
+        String inLast = "5";
+        for (int k = 0; k < 7; k++) {
+            inFirst = "if(1=2 or all and 10=9+1*" + inFirst + ",1,2)";
+            inLast = "if(1=2,1+2*3,4+1*" + inLast + ")";
+        }
+        sum("2+3*" + inFirst, 5);
+        sum("2+3*" + inFirst.replace("9+1*1", "9+1*2"), 8);
+        sum("60-1*" + inLast, 60 - 5 - 7 * 4);
+        ZincSermon x = Check.chapel("board b ribs 1 zinc 9;stain s deep 9 stuff 0;hearer g sin 1 ear 0;hearer h sin 2 ear 0;"
+                + "saved 1=2 or all and 10=9+1*" + inFirst.replace("9+1*1", "9+1*sin") + ";");
+        Check.due("saved(1)", x.saved(1), 1);
     }
 
     private static void grammarOfTests() {

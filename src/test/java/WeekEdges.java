@@ -272,6 +272,12 @@ final class WeekEdges {
         Check.due("an IMAGE without BOARDS", Check.on(x, Check.sealed(0, 0, 0, 9, 1)), true);
         Check.due("saved", x.saved(0), 1);
         Check.due("lost without BOARDS", x.saved(1), 0);
+        // The water and the WEEK are as they are, though there was no SERMON at all yet.
+        x = Check.chapel("hearer f sin 1 ear 5;slide water=5 and week=2;");
+        Check.due("an IMAGE of WEEK 2", Check.on(x, Check.sealed(0, 2, 4, 1)), true);
+        Check.due("other water", x.saved(1), 1);
+        x.pour(5);
+        Check.due("that water", x.saved(1), 0);
     }
 
     private static void oneMoreWeek() {
