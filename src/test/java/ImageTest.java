@@ -13,30 +13,6 @@ public final class ImageTest {
         Check.end();
     }
 
-    private static int[] image(ZincSermon x) {
-        int[] bytes = new int[x.image()];
-        for (int k = 0; k < bytes.length; k++) {
-            bytes[k] = x.octet(k);
-        }
-        return bytes;
-    }
-
-    private static boolean on(ZincSermon x, int... bytes) {
-        Check.tape(x, bytes);
-        return x.on();
-    }
-
-    /** With the last byte that is due. */
-    private static int[] sealed(int... bytes) {
-        int[] all = java.util.Arrays.copyOf(bytes, bytes.length + 1);
-        int check = 211;
-        for (int octet : bytes) {
-            check = (5 * check + octet) % 251;
-        }
-        all[bytes.length] = check;
-        return all;
-    }
-
     private static void written() {
         ZincSermon x = new ZincSermon();
         Check.due("image() of nothing", x.image(), 4);
@@ -47,7 +23,7 @@ public final class ImageTest {
             x.weeks(40);
         }
         x.weeks(20);
-        int[] want = sealed(1, 44, 7, 10, 9, 0, 1, 0);
+        int[] want = Check.sealed(1, 44, 7, 10, 9, 0, 1, 0);
         Check.due("image()", x.image(), want.length);
         for (int k = 0; k < want.length; k++) {
             Check.due("octet(" + k + ")", x.octet(k), want[k]);
@@ -61,12 +37,12 @@ public final class ImageTest {
         ZincSermon x = Check.chapel(TEXT);
         x.weeks(2);
         x.pour(33);
-        int[] bytes = image(x);
+        int[] bytes = Check.image(x);
         x.soil(0, 50);
         x.mend(0);
         x.weeks(9);
         x.seed(9);
-        Check.due("on()", on(x, bytes), true);
+        Check.due("on()", Check.on(x, bytes), true);
         int[] wants = {2, 1, 2, 2, 33, 1, 0, 1, 0, 0, 0, 9};
         for (int what = 0; what < 12; what++) {
             Check.due("has(" + what + ") behind on()", x.has(what), wants[what]);
@@ -85,15 +61,15 @@ public final class ImageTest {
 
     private static void edges() {
         ZincSermon x = Check.chapel(TEXT);
-        Check.due("on() most", on(x, sealed(3, 231, 99, 20, 9, 99, 1, 1)), true);
+        Check.due("on() most", Check.on(x, Check.sealed(3, 231, 99, 20, 9, 99, 1, 1)), true);
         Check.due("week", x.has(3), 999);
         Check.due("saved", x.has(7), 2);
-        Check.due("on() least", on(x, sealed(0, 0, 0, 0, 0, 0, 0, 0)), true);
+        Check.due("on() least", Check.on(x, Check.sealed(0, 0, 0, 0, 0, 0, 0, 0)), true);
         Check.due("bare boards", x.has(6), 2);
         Check.due("nobody is saved", x.has(7), 0);
         int[] weeks = {255, 256, 257, 511, 512, 513, 767, 768, 998, 999};
         for (int week : weeks) {
-            Check.due("on() at WEEK " + week, on(x, sealed(week / 256, week % 256, 0, 0, 0, 0, 0, 0)), true);
+            Check.due("on() at WEEK " + week, Check.on(x, Check.sealed(week / 256, week % 256, 0, 0, 0, 0, 0, 0)), true);
             Check.due("WEEK", x.has(3), week);
             x.image();
             Check.due("octet(0) at WEEK " + week, x.octet(0), week / 256);
@@ -106,7 +82,7 @@ public final class ImageTest {
         x.soil(0, 3);
         long before = Check.all(x);
         for (int k = 0; k < beyond.length; k++) {
-            Check.due("on() beyond " + k, on(x, sealed(beyond[k])), false);
+            Check.due("on() beyond " + k, Check.on(x, Check.sealed(beyond[k])), false);
             Check.due("all stays", Check.all(x), before);
             Check.due("status(5)", x.status(5), k + 1);
         }
@@ -123,14 +99,14 @@ public final class ImageTest {
         }
         ZincSermon x = Check.chapel(text.toString());
         x.sermon(0, 0, 1);
-        int[] want = sealed(0, 0, 0, 19, 21, 22, 23, 24, 89, 91, 92, 93, 94, 95, 0, 0, 0, 1, 1, 1);
+        int[] want = Check.sealed(0, 0, 0, 19, 21, 22, 23, 24, 89, 91, 92, 93, 94, 95, 0, 0, 0, 1, 1, 1);
         Check.due("image() of all", x.image(), 21);
         for (int k = 0; k < 21; k++) {
             Check.due("octet(" + k + ") of all", x.octet(k), want[k]);
         }
         Check.due("octet(21) of all", x.octet(21), -1);
         x.weeks(9);
-        Check.due("on() of all", on(x, want), true);
+        Check.due("on() of all", Check.on(x, want), true);
         Check.due("image() anew", x.image(), 21);
         for (int k = 0; k < 21; k++) {
             Check.due("octet(" + k + ") anew", x.octet(k), want[k]);
@@ -141,25 +117,25 @@ public final class ImageTest {
         ZincSermon x = Check.chapel(TEXT);
         x.weeks(1);
         long before = Check.all(x);
-        int[] good = image(x);
+        int[] good = Check.image(x);
         for (int k = 0; k < good.length; k++) {
             int[] other = good.clone();
             other[k] = other[k] ^ 1;
-            Check.due("on() with byte " + k + " changed", on(x, other), false);
-            Check.due("on() cut at " + k, on(x, java.util.Arrays.copyOf(good, k)), false);
+            Check.due("on() with byte " + k + " changed", Check.on(x, other), false);
+            Check.due("on() cut at " + k, Check.on(x, java.util.Arrays.copyOf(good, k)), false);
         }
-        Check.due("on() with a byte more", on(x, java.util.Arrays.copyOf(good, good.length + 1)), false);
-        Check.due("on() sealed anew", on(x, sealed(good)), false);
+        Check.due("on() with a byte more", Check.on(x, java.util.Arrays.copyOf(good, good.length + 1)), false);
+        Check.due("on() sealed anew", Check.on(x, Check.sealed(good)), false);
         Check.due("all stays", Check.all(x), before);
         Check.due("the tape goes", x.feed(0, 0, 0, 0, 0), 20);
         x.end(0);
-        Check.due("on()", on(x, good), true);
+        Check.due("on()", Check.on(x, good), true);
         // A last byte of the same rest by 251 is another byte.
         for (int water = 0; water < 100; water++) {
-            int[] all = sealed(0, 0, water, 20, 9, 99, 1, 1);
+            int[] all = Check.sealed(0, 0, water, 20, 9, 99, 1, 1);
             if (all[8] <= 4) {
                 all[8] += 251;
-                Check.due("on() with a last byte above 250", on(x, all), false);
+                Check.due("on() with a last byte above 250", Check.on(x, all), false);
             }
         }
     }

@@ -12,28 +12,23 @@ public final class SeenTest {
         Check.end();
     }
 
-    private static int see(ZincSermon x, int... rows) {
-        Check.tape(x, rows);
-        return x.see();
-    }
-
     private static void seen() {
         ZincSermon x = Check.chapel(TEXT);
         Check.due("which() without", x.which(), 15);
         // a: s 10 8 6 4 2 0, t 10 9 8 7 6 5, u 7 5 3 1 0; b: s 7 4 1 0, t 8 6 4, u 4 1 0.
-        Check.due("see()", see(x, 0, 2, 6), 1);
+        Check.due("see()", Check.see(x, 0, 2, 6), 1);
         Check.due("has(9)", x.has(9), 1);
         Check.due("which()", x.which(), 1);
-        Check.due("see()", see(x, 0, 40, 0), 1);
+        Check.due("see()", Check.see(x, 0, 40, 0), 1);
         Check.due("which()", x.which(), 15);
-        Check.due("see()", see(x, 0, 5, 0, 1, 3, 0), 2);
+        Check.due("see()", Check.see(x, 0, 5, 0, 1, 3, 0), 2);
         Check.due("has(9)", x.has(9), 2);
         Check.due("which()", x.which(), 12);
-        Check.due("see()", see(x, 0, 1, 99), 1);
+        Check.due("see()", Check.see(x, 0, 1, 99), 1);
         Check.due("which()", x.which(), 0);
         Check.due("tells of none", x.tells(0, 0), -1);
         Check.due("tells of none", x.tells(0, 1), -1);
-        Check.due("see() of 16", see(x, rows(16)), 16);
+        Check.due("see() of 16", Check.see(x, rows(16)), 16);
         Check.due("which()", x.which(), 2);
     }
 
@@ -48,12 +43,12 @@ public final class SeenTest {
 
     private static void refused() {
         ZincSermon x = Check.chapel(TEXT);
-        see(x, 0, 2, 6);
+        Check.see(x, 0, 2, 6);
         int[][] wrong = {{}, {0}, {0, 1}, {0, 1, 1, 1}, {2, 1, 1}, {255, 1, 1}, {0, 0, 1}, {0, 41, 1}, {0, 1, 100},
             {0, 1, 255}, {0, 200, 1}, rows(17), {0, 1, 1, 0, 1, 100}, {0, 2, 6, 0, 2}};
         int count = 0;
         for (int[] rows : wrong) {
-            Check.due("see() of " + rows.length, see(x, rows), -1);
+            Check.due("see() of " + rows.length, Check.see(x, rows), -1);
             count++;
             Check.due("status(5)", x.status(5), count);
             Check.due("SEEN stays", x.has(9), 1);
@@ -61,13 +56,13 @@ public final class SeenTest {
             Check.due("the tape goes", x.feed(0, 0, 0, 0, 0), 20);
             x.end(0);
         }
-        Check.due("see() at the edges", see(x, 1, 40, 99), 1);
-        Check.due("see() without boards", see(Check.chapel("stain s deep 1 stuff 1;"), 0, 1, 1), -1);
+        Check.due("see() at the edges", Check.see(x, 1, 40, 99), 1);
+        Check.due("see() without boards", Check.see(Check.chapel("stain s deep 1 stuff 1;"), 0, 1, 1), -1);
     }
 
     private static void whatStays() {
         ZincSermon x = Check.chapel(TEXT);
-        see(x, 0, 2, 6);
+        Check.see(x, 0, 2, 6);
         x.sermon(0, 1, 2);
         // t is 8 now, 6 behind two strokes: as they are now.
         Check.due("which() now", x.which(), 1 | 2);
@@ -126,11 +121,11 @@ public final class SeenTest {
                 + "stain v deep 5 stuff 0;stain w deep 5 stuff 0;out if(ribs=1,3,if(stuff=2 and rub>1 and rub<4 or stuff=1 and rub=3,1,0));");
         Check.due("tells of five", x.tells(0, 0), 2);
         Check.due("tells of five, left", x.tells(0, 1), 2);
-        see(x, 1, 1, 6);
+        Check.see(x, 1, 1, 6);
         Check.due("which()", x.which(), 7);
         Check.due("tells of three", x.tells(0, 0), 3);
         Check.due("tells of three, left", x.tells(0, 1), 1);
-        see(x, 1, 1, 2);
+        Check.see(x, 1, 1, 2);
         Check.due("tells of two", x.tells(0, 0), 1);
         Check.due("tells of two, left", x.tells(0, 1), 2);
     }

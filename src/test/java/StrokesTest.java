@@ -97,7 +97,7 @@ public final class StrokesTest {
         Check.due("match(-2)", x.match(-2), -1);
         Check.due("match(MIN)", x.match(MIN), -1);
         // What changes the boards changes the match: c is worn to 1, so nothing on it is safe.
-        Check.tape(x, image(new int[] {0, 0, 0, 50, 50, 1, 12, 0, 6}));
+        Check.tape(x, Check.sealed(0, 0, 0, 50, 50, 1, 12, 0, 6));
         Check.due("on()", x.on(), true);
         Check.due("match(NONE)", x.match(-1), 6 + 6);
         Check.due("match(0)", x.match(0), 1);
@@ -112,16 +112,6 @@ public final class StrokesTest {
         x.sermon(0, 0, 40);
         Check.due("match(NONE) of one", x.match(-1), 3);
         Check.due("match(0) of what is out", x.match(0), -1);
-    }
-
-    private static int[] image(int[] all) {
-        int check = 211;
-        for (int octet : all) {
-            check = (5 * check + octet) % 251;
-        }
-        int[] whole = java.util.Arrays.copyOf(all, all.length + 1);
-        whole[all.length] = check;
-        return whole;
     }
 
     private static void matchOfLikeOnes() {
