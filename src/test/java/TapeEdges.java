@@ -149,6 +149,9 @@ final class TapeEdges {
         behind("water 12345;", 10, 4, 6);
         behind("watery 1;", 5, 1, 5);
         behind("board abcdefg", 12, 1, 12);
+        behind("abcdefg", 6, 1, 0);
+        behind("board hearers", 12, 1, 6);
+        behind("stain abcdef deep 1 stuff 1;board abcdefg", 40, 2, 34);
         behind("water  ;", 6, 1, 6);
         behind("water 1;$", 9, 1, 8);
         x = new ZincSermon();
