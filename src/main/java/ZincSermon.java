@@ -668,6 +668,27 @@ public final class ZincSermon {
             count[sort]++;
         }
 
+        private static boolean isRule(int word) {
+            return word >= OUT && word <= PICKS;
+        }
+
+        /** The steps from here on are those of out, wear, saved, slide or picks; other words have none. */
+        void beginRule(int word) {
+            if (isRule(word)) {
+                from[word - OUT] = stepCount;
+            }
+        }
+
+        void endRule(int word) {
+            if (isRule(word)) {
+                upTo[word - OUT] = stepCount;
+            }
+        }
+
+        boolean hasRule(int word) {
+            return isRule(word) && upTo[word - OUT] > from[word - OUT];
+        }
+
         void addStep(int kind, int number) {
             if (stepCount < steps.length) {
                 steps[stepCount] = kind << STEP_BITS | number;
@@ -835,19 +856,32 @@ public final class ZincSermon {
                 return;
             }
             next();
-            if (word == BOARD) {
-                readThing(BOARDS, RIBS, 9);
-            } else if (word == STAIN) {
-                readThing(STAINS, DEEP, DEEP_MOST);
-            } else if (word == HEARER) {
-                readThing(HEARERS, SIN, 9);
-            } else if (word == WATER) {
-                plan.water = takeValue(0, WATER_MOST);
-            } else if (word == DRY) {
-                plan.dry = takeValue(0, 100);
-            } else {
-                readRule(word);
+            scope = word;
+            plan.beginRule(word);
+            switch (word) {
+                case BOARD:
+                    readThing(BOARDS, RIBS, 9);
+                    break;
+                case STAIN:
+                    readThing(STAINS, DEEP, DEEP_MOST);
+                    break;
+                case HEARER:
+                    readThing(HEARERS, SIN, 9);
+                    break;
+                case WATER:
+                    plan.water = takeValue(0, WATER_MOST);
+                    break;
+                case DRY:
+                    plan.dry = takeValue(0, 100);
+                    break;
+                case SAVED:
+                case SLIDE:
+                    readTest(0);
+                    break;
+                default:
+                    readSum(0);
             }
+            plan.endRule(word);
             endStatement();
         }
 
@@ -880,7 +914,7 @@ public final class ZincSermon {
                 case DRY:
                     return false;
                 default:
-                    return word >= OUT && word <= PICKS && plan.upTo[word - OUT] > plan.from[word - OUT];
+                    return plan.hasRule(word);
             }
         }
 
@@ -918,22 +952,6 @@ public final class ZincSermon {
             return number;
         }
 
-        private void readRule(int word) {
-            int rule = word - OUT;
-            if (rule < 0 || rule >= plan.from.length) {
-                stop(1, start);
-                return;
-            }
-            scope = word;
-            plan.from[rule] = plan.stepCount;
-            if (word == SAVED || word == SLIDE) {
-                readTest(0);
-            } else {
-                readSum(0);
-            }
-            plan.upTo[rule] = plan.stepCount;
-        }
-
         // -- SUMS and TESTS: open tells how many ( [ not are open, which OPEN_MOST keeps low
 
         private void readSum(int open) {
@@ -967,11 +985,9 @@ public final class ZincSermon {
                 readLesserOrGreater(open);
             } else if (isWord(IF)) {
                 readChoice(open);
-            } else if (isSign('(') && takeOpener(open)) {
+            } else if (takeOpener(open, isSign('('))) {
                 readSum(open + 1);
                 takeSign(')');
-            } else {
-                stop(1, start);
             }
         }
 
@@ -999,7 +1015,7 @@ public final class ZincSermon {
         private void readLesserOrGreater(int open) {
             int step = isWord(MIN) ? DO_MIN : DO_MAX;
             next();
-            if (takeBracket(open)) {
+            if (takeOpener(open, isSign('('))) {
                 readSum(open + 1);
                 takeSign(',');
                 readSum(open + 1);
@@ -1010,7 +1026,7 @@ public final class ZincSermon {
 
         private void readChoice(int open) {
             next();
-            if (takeBracket(open)) {
+            if (takeOpener(open, isSign('('))) {
                 readTest(open + 1);
                 takeSign(',');
                 readSum(open + 1);
@@ -1021,15 +1037,12 @@ public final class ZincSermon {
             }
         }
 
-        private boolean takeBracket(int open) {
-            if (isSign('(')) {
-                return takeOpener(open);
+        /** Takes the ( [ not that is due; false when it isn't there or too many are open. */
+        private boolean takeOpener(int open, boolean there) {
+            if (!there) {
+                stop(1, start);
+                return false;
             }
-            stop(1, start);
-            return false;
-        }
-
-        private boolean takeOpener(int open) {
             if (open >= OPEN_MOST) {
                 stop(5, start);
                 return false;
@@ -1058,12 +1071,12 @@ public final class ZincSermon {
 
         private void readFact(int open) {
             if (isWord(NOT)) {
-                if (takeOpener(open)) {
+                if (takeOpener(open, true)) {
                     readFact(open + 1);
                     plan.addStep(DO_NOT, 0);
                 }
             } else if (isSign('[')) {
-                if (takeOpener(open)) {
+                if (takeOpener(open, true)) {
                     readTest(open + 1);
                     takeSign(']');
                 }
