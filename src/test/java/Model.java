@@ -5,8 +5,8 @@ import java.util.List;
 import java.util.Map;
 
 /**
- * A second ZincSermon, written from the document alone: the same calls, in the plainest way, by trial and by
- * whole copies, without regard to time, room or LANGUAGE.md. Where a call is refused it answers NONE or false.
+ * A second ZincSermon that shares no code with the first: the same calls by the document's words, by trial and
+ * by whole copies, without regard to time, room or LANGUAGE.md. Where a call is refused it answers NONE or false.
  */
 final class Model {
     private static final int NONE = -1;
